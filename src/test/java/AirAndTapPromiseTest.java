@@ -6,6 +6,7 @@ final class AirAndTapPromiseTest {
     public static void main(String[] args) {
         promise10TellsBothCoupledSquares();
         promise10TakesTheEdgesOfAirAndHole();
+        promise10ShowsWhereTheRootHasNotSettled();
         promise10RefusesInTheNamedOrder();
         promise15TapsAtAPlace();
         promise15RefusesInTheNamedOrder();
@@ -68,6 +69,20 @@ final class AirAndTapPromiseTest {
         single.modes(1);
         Check.same("coupled(0, 8, 8, false) of one cell", single.coupled(0, 8, 8, false), 0.055214463959039506);
         Check.same("coupled(0, 0, 0, true) of one cell", single.coupled(0, 0, 0, true), 0.5000000000000001);
+    }
+
+    /** Where both squares are nearly one, ROOT is asked of next to nothing, and thirty steps show. */
+    private static void promise10ShowsWhereTheRootHasNotSettled() {
+        PlateModes plate = unevenPlate();
+        double square = plate.mode(0, 0);
+        for (double off : new double[] {2e-8, 1e-8, 5e-9}) {
+            double h = square + off;
+            double p = square + h;
+            double d = p * p - 4 * square * h;
+            Check.same("ROOT is asked of a little", d > 0 && d < 1e-13, true);
+            Check.same("coupled(0, 0, square + " + off + ", false)", plate.coupled(0, 0, h, false), (p - root(d)) / 2);
+            Check.same("coupled(0, 0, square + " + off + ", true)", plate.coupled(0, 0, h, true), (p + root(d)) / 2);
+        }
     }
 
     private static void promise10RefusesInTheNamedOrder() {

@@ -183,6 +183,14 @@ final class CellsPromiseTest {
         plainAll.wood(1, 0, 2);
         likePlain("braces over new wood", all, plainAll, 4, 3);
 
+        PlateModes longest = new PlateModes(6, 6);
+        PlainPlate plainLongest = new PlainPlate(6, 6);
+        longest.brace(0, 5, 5, 5, 1.5);
+        plainLongest.brace(0, 5, 5, 5, 1.5);
+        longest.brace(5, 5, 5, 0, 2.5);
+        plainLongest.brace(5, 5, 5, 0, 2.5);
+        likePlain("braces from end to end", longest, plainLongest, 6, 6);
+
         PlateModes gap = new PlateModes(3, 2);
         gap.wood(1, 0, 0);
         PlateModes bracedGap = new PlateModes(3, 2);
@@ -209,6 +217,11 @@ final class CellsPromiseTest {
         mirrors("a gap in the middle column", plate, false, false);
         plate.wood(2, 0, 0);
         mirrors("a gap on both ends of it", plate, false, true);
+        PlateModes corner = new PlateModes(2, 2);
+        corner.wood(0, 0, 2);
+        mirrors("a corner", corner, false, false);
+        corner.wood(1, 0, 2);
+        mirrors("two corners above", corner, true, false);
         PlateModes rated = new PlateModes(3, 3);
         rated.rates(2, 3, 4);
         rated.brace(0, 0, 1, 0, 1);

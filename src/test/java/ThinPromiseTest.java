@@ -11,6 +11,7 @@ final class ThinPromiseTest {
         promise13MakesTheModesItNeeds();
         promise13RefusesAndChangesNothing();
         promise13LeavesAGapAlone();
+        promise13DoesNotKeepATryWithoutAWantedMode();
         promise14AddsUpWhatIsMissed();
         promise14RefusesWhereModesAreNotMade();
         Check.finish("ThinPromiseTest");
@@ -158,6 +159,13 @@ final class ThinPromiseTest {
         plate.wood(0, 0, 2);
         Check.state("thin(0.125, 0.125) on other wood", () -> plate.thin(0.125, 0.125));
         Check.state("mode(0, 0) of other wood after it", () -> plate.mode(0, 0));
+        PlateModes emptied = new PlateModes(2, 2);
+        emptied.want(0, 1);
+        Check.fine("thin(0.125, 0.125) of four cells", () -> emptied.thin(0.125, 0.125));
+        for (int cell = 0; cell < 4; cell++) {
+            emptied.wood(cell % 2, cell / 2, 0);
+        }
+        Check.state("thin(0.125, 0.125) of none", () -> emptied.thin(0.125, 0.125));
     }
 
     private static void promise13LeavesAGapAlone() {
@@ -167,6 +175,30 @@ final class ThinPromiseTest {
         Check.same("thin(0.125, 0.125) with a gap", plate.thin(0.125, 0.125), 3);
         Check.same("the gap is still there", plate.wood(0, 0, 0), false);
         Check.same("weight() of the other three", plate.weight(), 2.625);
+    }
+
+    /**
+     * Mode 2 of these two cells is what rounding leaves, and no more of it is left when one is
+     * thinner: there is no sum then that could be less, and the call as a whole is not refused.
+     */
+    private static void promise13DoesNotKeepATryWithoutAWantedMode() {
+        double[] thinner = {0.125, 3.25};
+        Check.same("modes(3) on thinner cells", twoCells(thinner).modes(3), 2);
+        PlateModes plate = twoCells(new double[] {0.125, 3.375});
+        Check.same("modes(3) on two cells", plate.modes(3), 3);
+        plate.want(2, 0);
+        Check.same("thin(0.125, 0.125)", plate.thin(0.125, 0.125), 0);
+        Check.same("weight() is as before", plate.weight(), 3.5);
+        Check.fine("mode(2, 0) after thin()", () -> plate.mode(2, 0));
+    }
+
+    private static PlateModes twoCells(double[] thick) {
+        PlateModes plate = new PlateModes(2, 2);
+        plate.wood(0, 0, thick[0]);
+        plate.wood(1, 0, thick[1]);
+        plate.wood(0, 1, 0);
+        plate.wood(1, 1, 0);
+        return plate;
     }
 
     private static void promise14AddsUpWhatIsMissed() {
