@@ -23,17 +23,6 @@ final class AirAndTapPromiseTest {
         return plate;
     }
 
-    private static double root(double v) {
-        if (!(v > 0)) {
-            return 0;
-        }
-        double r = 1 + v;
-        for (int step = 0; step < 30; step++) {
-            r = (r + v / r) / 2;
-        }
-        return r;
-    }
-
     private static void promise10TellsBothCoupledSquares() {
         PlateModes plate = unevenPlate();
         for (int k = 0; k < 3; k++) {
@@ -42,7 +31,7 @@ final class AirAndTapPromiseTest {
             for (double q : new double[] {0, 0.3, 1, 8}) {
                 for (double h : new double[] {0, 0.7, 3, 8}) {
                     double p = square + q * s * s + h;
-                    double d = root(p * p - 4 * square * h);
+                    double d = PlainPlate.root(p * p - 4 * square * h);
                     String call = "coupled(" + k + ", " + q + ", " + h + ", ";
                     double lesser = plate.coupled(k, q, h, false);
                     double greater = plate.coupled(k, q, h, true);
@@ -80,8 +69,8 @@ final class AirAndTapPromiseTest {
             double p = square + h;
             double d = p * p - 4 * square * h;
             Check.same("ROOT is asked of a little", d > 0 && d < 1e-13, true);
-            Check.same("coupled(0, 0, square + " + off + ", false)", plate.coupled(0, 0, h, false), (p - root(d)) / 2);
-            Check.same("coupled(0, 0, square + " + off + ", true)", plate.coupled(0, 0, h, true), (p + root(d)) / 2);
+            Check.same("coupled(0, 0, square + " + off + ", false)", plate.coupled(0, 0, h, false), (p - PlainPlate.root(d)) / 2);
+            Check.same("coupled(0, 0, square + " + off + ", true)", plate.coupled(0, 0, h, true), (p + PlainPlate.root(d)) / 2);
         }
     }
 

@@ -171,17 +171,17 @@ final class CellsPromiseTest {
             PlainPlate plain = new PlainPlate(4, 3);
             plate.brace(c[0], c[1], c[2], c[3], 0.7);
             plain.brace(c[0], c[1], c[2], c[3], 0.7);
-            likePlain("one brace", plate, plain, 4, 3);
+            Answers.likePlain("one brace", plate, plain, 4, 3, 3);
             all.brace(c[0], c[1], c[2], c[3], 0.3);
             plainAll.brace(c[0], c[1], c[2], c[3], 0.3);
         }
-        likePlain("crossing braces", all, plainAll, 4, 3);
+        Answers.likePlain("crossing braces", all, plainAll, 4, 3, 3);
         all.wood(1, 0, 0);
         plainAll.wood(1, 0, 0);
-        likePlain("braces over a gap", all, plainAll, 4, 3);
+        Answers.likePlain("braces over a gap", all, plainAll, 4, 3, 3);
         all.wood(1, 0, 2);
         plainAll.wood(1, 0, 2);
-        likePlain("braces over new wood", all, plainAll, 4, 3);
+        Answers.likePlain("braces over new wood", all, plainAll, 4, 3, 3);
 
         PlateModes longest = new PlateModes(6, 6);
         PlainPlate plainLongest = new PlainPlate(6, 6);
@@ -189,7 +189,7 @@ final class CellsPromiseTest {
         plainLongest.brace(0, 5, 5, 5, 1.5);
         longest.brace(5, 5, 5, 0, 2.5);
         plainLongest.brace(5, 5, 5, 0, 2.5);
-        likePlain("braces from end to end", longest, plainLongest, 6, 6);
+        Answers.likePlain("braces from end to end", longest, plainLongest, 6, 6, 3);
 
         PlateModes gap = new PlateModes(3, 2);
         gap.wood(1, 0, 0);
@@ -242,9 +242,18 @@ final class CellsPromiseTest {
         Check.same("weight() denser", plate.weight(), 11.0);
         plate.wood(0, 0, 0);
         Check.same("weight() with a gap", plate.weight(), 9.0);
-        plate.rates(1, 1, 0.3);
         // The sum of each THICKNESS * DENSITY; the sum of thicknesses by DENSITY has other last bits.
-        Check.same("weight() cell by cell", plate.weight(), 0.3 + 0.3 + 0.3 + 0.3 + 0.5 * 0.3);
+        PlateModes even = new PlateModes(2, 3);
+        even.rates(1, 1, 1.1);
+        Check.same("weight() cell by cell", even.weight(), 1.1 + 1.1 + 1.1 + 1.1 + 1.1 + 1.1);
+        Check.same("weight() cell by cell is another than at once", even.weight() == 6 * 1.1, false);
+        PlateModes uneven = new PlateModes(2, 2);
+        uneven.wood(0, 0, 0.3);
+        uneven.wood(1, 0, 0.6);
+        uneven.wood(0, 1, 7.1);
+        uneven.wood(1, 1, 0);
+        Check.same("weight() row by row", uneven.weight(), 0.3 + 0.6 + 7.1);
+        Check.same("weight() row by row is another than column by column", uneven.weight() == 0.3 + 7.1 + 0.6, false);
         for (int cell = 0; cell < 6; cell++) {
             plate.wood(cell % 2, cell / 2, 0);
         }
@@ -256,20 +265,6 @@ final class CellsPromiseTest {
         for (int k = 0; k < 4; k++) {
             for (int what = 0; what < 3; what++) {
                 Check.same(call + ": mode(" + k + ", " + what + ")", one.mode(k, what), other.mode(k, what));
-            }
-        }
-    }
-
-    private static void likePlain(String call, PlateModes plate, PlainPlate plain, int width, int height) {
-        Check.same(call + ": modes", plate.modes(3), plain.modes(3));
-        for (int k = 0; k < 3; k++) {
-            for (int what = 0; what < 3; what++) {
-                Check.same(call + ": mode(" + k + ", " + what + ")", plate.mode(k, what), plain.mode(k, what));
-            }
-            for (int cell = 0; cell < width * height; cell++) {
-                int x = cell % width;
-                int y = cell / width;
-                Check.same(call + ": shape(" + k + ", " + x + ", " + y + ")", plate.shape(k, x, y), plain.shape(k, x, y));
             }
         }
     }

@@ -43,7 +43,7 @@ final class Check {
         same(call, outcome(run), "no exception");
     }
 
-    private static String outcome(Runnable run) {
+    static String outcome(Runnable run) {
         try {
             run.run();
             return "no exception";

@@ -194,10 +194,7 @@ final class ModesPromiseTest {
 
     private static void norm(double[] shape, double[] mass) {
         double product = mass[0] * shape[0] * shape[0] + mass[1] * shape[1] * shape[1];
-        double root = 1 + product;
-        for (int step = 0; step < 30; step++) {
-            root = (root + product / root) / 2;
-        }
+        double root = PlainPlate.root(product);
         shape[0] = shape[0] / root;
         shape[1] = shape[1] / root;
     }

@@ -345,7 +345,7 @@ final class PlainPlate {
         return all;
     }
 
-    private static double root(double v) {
+    static double root(double v) {
         if (!(v > 0)) {
             return 0;
         }
