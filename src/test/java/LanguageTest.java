@@ -15,6 +15,8 @@ final class LanguageTest {
         {"rule 6, a throw of another thing", "\\bthrow\\b(?! new (IllegalStateException|IllegalArgumentException|IndexOutOfBoundsException)\\(\"[^\"]*\"\\);)"},
         {"rule 9", "while\\s*\\(\\s*true|for\\s*\\(\\s*;\\s*;"},
         {"rule 10", "\"\\s*\\+|\\+\\s*\""},
+        // An object goes into a name that stands already: a final field, which a constructor alone can fill.
+        {"rule 12, an object made outside a constructor", "(?m)^(?! +\\w+ = new )(?!.*\\bthrow new ).*\\bnew\\b.*$"},
     };
 
     public static void main(String[] args) throws IOException {
